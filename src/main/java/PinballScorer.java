@@ -475,6 +475,12 @@ public final class PinballScorer {
         }
     }
 
+    private static void copyAll(boolean[] from, boolean[] to) {
+        for (int i = 0; i < from.length && i < to.length; i++) {
+            to[i] = from[i];
+        }
+    }
+
     private int simulatedLanes() {
         trial.copyFrom(table.ball);
         int points = 0;
@@ -550,9 +556,9 @@ public final class PinballScorer {
 
         void copyFrom(Ball other) {
             multiplier = other.multiplier;
-            System.arraycopy(other.lit, 0, lit, 0, LANES);
+            copyAll(other.lit, lit);
             System.arraycopy(other.bumperValues, 0, bumperValues, 0, BUMPERS);
-            System.arraycopy(other.down, 0, down, 0, TARGETS);
+            copyAll(other.down, down);
             completedBanks = other.completedBanks;
             bonusUnits = other.bonusUnits;
             tiltMeter = other.tiltMeter;
@@ -1069,7 +1075,7 @@ public final class PinballScorer {
             position = 0;
             commandCount = 0;
             boolean wellFormed = readCommand();
-            for (int i = 0; i < SCRIPT_CAPACITY && wellFormed && position < length; i++) {
+            while (wellFormed && position < length && commandCount < SCRIPT_CAPACITY) {
                 wellFormed = read(';') && readCommand();
             }
             return wellFormed;
@@ -1099,7 +1105,7 @@ public final class PinballScorer {
                 return null;
             }
             for (Command command : COMMANDS) {
-                if (command.word.charAt(0) == text[position]) {
+                if (command.word.indexOf(text[position]) == 0) {
                     return command;
                 }
             }
