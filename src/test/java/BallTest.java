@@ -9,6 +9,7 @@ public final class BallTest {
         wrongIndices(Check.started(1));
         newBall();
         playedBall();
+        nextBallHasNothingOfIt();
         hitsWhileTilted();
         wouldBeSaved();
         Check.finish();
@@ -81,6 +82,23 @@ public final class BallTest {
         Check.equal("warnings", x.warnings(), 1);
         Check.equal("isTilted", x.isTilted(), false);
         Check.equal("hits", x.hits(), 12);
+    }
+
+    private static void nextBallHasNothingOfIt() {
+        PinballScorer x = Check.started(1);
+        String fresh = Check.state(x).replaceAll("ball=1 |drained=0 |rate=\\S+( \\S+)? ", "");
+        x.drain();
+        x.nudge(3);
+        x.nudge(3);
+        x.nudge(3);
+        Check.equal("the meter before", x.tiltMeter() + "/" + x.warnings(), "3/1");
+        x.drain();
+        Check.equal("the meter of the next ball", x.tiltMeter() + "/" + x.warnings(), "0/0");
+        Check.equal("all of the next ball", Check.state(x).replaceAll("ball=2 |drained=1 |rate=\\S+( \\S+)? ", ""), fresh);
+        x.nudge(2);
+        x.quitGame();
+        x.startGame();
+        Check.equal("the meter in the next game", x.tiltMeter(), 0);
     }
 
     private static void hitsWhileTilted() {

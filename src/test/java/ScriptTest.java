@@ -13,6 +13,7 @@ public final class ScriptTest {
         longestScripts();
         errorPositions();
         errorsInEveryPlace();
+        earlierScriptsLeaveNothing();
         failedCommands();
         failureTakesEverythingBack();
         positionsAreKept();
@@ -150,6 +151,25 @@ public final class ScriptTest {
             error(command + "~", command.length());
             error(command + ";", command.length() + 1);
         }
+    }
+
+    /** What an earlier, longer script held must not complete a later one. */
+    private static void earlierScriptsLeaveNothing() {
+        PinballScorer x = Check.started(1);
+        Check.runScript(x, "lane 1;lane 2");
+        cutShort(x, "lane", 4);
+        cutShort(x, "lane ", 5);
+        cutShort(x, "lane 1;", 7);
+        cutShort(x, "lane 1;lan", 10);
+        cutShort(x, "", 0);
+        Check.equal("a shorter script", Check.runScript(x, "lane 1"), 1);
+        Check.equal("the hits", x.hits(), 3);
+    }
+
+    private static void cutShort(PinballScorer x, String script, int due) {
+        Check.type(x, script);
+        Check.fails("running \"" + script + "\"", IllegalArgumentException.class, x::runScript);
+        Check.equal("errorPosition of \"" + script + "\"", x.errorPosition(), due);
     }
 
     private static void failure(PinballScorer x, String script, int due) {
