@@ -6,16 +6,32 @@ final class Check {
         Object run();
     }
 
+    private static int made;
     private static int wrong;
+    private static String context = "";
 
     private Check() {
     }
 
     static void equal(String what, Object got, Object want) {
+        made++;
         if (!want.equals(got)) {
-            wrong++;
-            System.out.println(what + " answered " + got + ", due is " + want);
+            wrong(what + " answered " + got + ", due is " + want);
         }
+    }
+
+    static void wrong(String what) {
+        wrong++;
+        System.out.println(context + what);
+    }
+
+    /** What is printed before each wrong answer from here on. */
+    static void within(String newContext) {
+        context = newContext;
+    }
+
+    static int made() {
+        return made;
     }
 
     /** The exception must be of this very class: one that the machine throws is often of a class below it. */
@@ -119,6 +135,27 @@ final class Check {
     static void lose(PinballScorer x) {
         x.drain();
         x.drain();
+    }
+
+    /** Loses the ball in play, whatever has happened to it. */
+    static void loseBall(PinballScorer x) {
+        if (x.wouldBeSaved()) {
+            x.drain();
+        }
+        x.drain();
+    }
+
+    static void loseBalls(PinballScorer x, int count) {
+        for (int i = 0; i < count; i++) {
+            loseBall(x);
+        }
+    }
+
+    /** All of the ball in play, so that two balls can be compared. */
+    static String ball(PinballScorer x) {
+        StringBuilder text = new StringBuilder();
+        putBall(text, x);
+        return text.toString();
     }
 
     /** Everything that undo and the snapshot cover, as the face tells it without changing anything. */

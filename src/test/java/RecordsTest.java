@@ -35,18 +35,11 @@ public final class RecordsTest {
         x.startGame();
         for (int hits : bumperHits) {
             Check.times(hits, () -> x.hitBumper(0));
-            loseBall(x);
+            Check.loseBall(x);
         }
         while (x.isRunning()) {
-            loseBall(x);
+            Check.loseBall(x);
         }
-    }
-
-    private static void loseBall(PinballScorer x) {
-        if (x.wouldBeSaved()) {
-            x.drain();
-        }
-        x.drain();
     }
 
     private static String table(PinballScorer x) {
